@@ -684,7 +684,7 @@ public final class SmokeGuard {
         int weightOf(int set) {
             int sum = 0;
             for (int i = 0; i < count; i++) {
-                if ((set & 1 << i) != 0) {
+                if ((set & (1 << i)) != 0) {
                     sum += weight[i];
                 }
             }
