@@ -6,11 +6,21 @@ final class Check {
     }
 
     private final String name;
+    private String about = "";
     private int asked;
     private int wrong;
 
     Check(String name) {
         this.name = name;
+    }
+
+    /** Names what the next answers are about, for the print of a wrong one. */
+    void about(String text) {
+        about = text.isEmpty() ? "" : "[" + text + "] ";
+    }
+
+    int asked() {
+        return asked;
     }
 
     void due(String call, long got, long want) {
@@ -36,7 +46,7 @@ final class Check {
         throwing(call, IllegalStateException.class, done);
     }
 
-    private void throwing(String call, Class<?> want, Call done) {
+    void throwing(String call, Class<?> want, Call done) {
         asked++;
         long got;
         try {
@@ -54,7 +64,7 @@ final class Check {
     void fail(String text) {
         wrong++;
         if (wrong <= 40) {
-            System.out.println(name + ": " + text);
+            System.out.println(name + ": " + about + text);
         }
     }
 
